@@ -20,6 +20,7 @@ public final class LawsTest {
         faultsThree();
         theFirstFaultIsTold();
         aFaultLeavesLaws();
+        whatWasReadIsGone();
         lawsAreRefused();
         check.end();
     }
@@ -120,6 +121,8 @@ public final class LawsTest {
         fault("5000;", 1, 0);
         fault("fal 5;", 1, 0);
         fault(" farr 5;", 1, 1);
+        fault("gar 5;", 1, 0);
+        fault("farz 5;", 1, 0);
         fault("fa r 5;", 1, 0);
         fault("Far 5;", 1, 0);
         fault("faR 5;", 1, 0);
@@ -185,6 +188,15 @@ public final class LawsTest {
         check.due("read", x.read(), 1);
         check.due("fault of the latest read", x.fault(), NONE);
         laws(x, new int[] {90, 3, 30, 5, 90, 8, 3, 95});
+    }
+
+    // the ';' of the first text stands just behind the end of the second
+    private static void whatWasReadIsGone() {
+        LooksByMany x = new LooksByMany();
+        check.due("read", Make.laws(x, "lean 6;"), 1);
+        check.due("read of a text without an end", Make.laws(x, "lean 7"), -11);
+        check.due("fault", x.fault(), 6);
+        check.due("law(2)", x.law(2), 6);
     }
 
     private static void lawsAreRefused() {

@@ -13,9 +13,12 @@ public final class LeansTest {
         mayBeOne();
         agreedIsRefused();
         greenOnes();
+        theFirstPictureMayBeGreenest();
         givenToMachines();
         givenWithTwoMachines();
         givenByLowSureness();
+        givenThatIsJustSure();
+        givenOfEachKind();
         givenIsRefused();
         check.end();
     }
@@ -146,6 +149,18 @@ public final class LeansTest {
         check.due("green(2147483647)", x.green(2147483647), NONE);
     }
 
+    private static void theFirstPictureMayBeGreenest() {
+        LooksByMany x = new LooksByMany();
+        Make.pictures(x, 3, 1, 0, 1);
+        Make.lookers(x, 5, 5);
+        Make.looks(x, 0, 3, 3, 3);
+        Make.looks(x, 1, 3, 2, 1);
+        int[] due = {0, 1, 2, NONE};
+        for (int i = 0; i < due.length; i++) {
+            check.due("green(" + i + ")", x.green(i), due[i]);
+        }
+    }
+
     private static void given(LooksByMany x, int pictures, int others, int wrong) {
         int[] due = {pictures, others, wrong};
         for (int what = 0; what < 3; what++) {
@@ -211,6 +226,36 @@ public final class LeansTest {
         y.reckon();
         check.isTrue("both are sure", y.odds(0, 1) >= 340 && y.odds(0, 2) >= 340);
         given(y, 1, 0, 1);
+    }
+
+    // odds of 780 for SMOOTH, as ReckonTest works them out
+    private static void givenThatIsJustSure() {
+        LooksByMany x = new LooksByMany();
+        x.picture(2, 0, 1, false);
+        Make.lookers(x, 0, 4);
+        x.look(0, 0, 3);
+        x.look(1, 0, 0);
+        x.reckon();
+        check.due("odds(0, 0)", x.odds(0, 0), 780);
+        given(x, 0, 0, 0);
+        Make.laws(x, "sure 78;");
+        given(x, 1, 1, 1);
+        Make.laws(x, "sure 79;");
+        given(x, 0, 0, 0);
+    }
+
+    private static void givenOfEachKind() {
+        for (int kind = 0; kind < 3; kind++) {
+            LooksByMany x = new LooksByMany();
+            x.picture(kind, 0, 1, true);
+            x.picture(kind, 0, 1, true);
+            Make.lookers(x, 5, 4);
+            x.look(0, 0, 3);
+            x.look(1, 0, kind);
+            x.look(1, 1, (kind + 1) % 3);
+            x.reckon();
+            given(x, 1, 1, 0);
+        }
     }
 
     private static void givenIsRefused() {

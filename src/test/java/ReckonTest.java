@@ -6,13 +6,16 @@ public final class ReckonTest {
     public static void main(String[] args) {
         nothingChanges();
         oneLook();
+        rightOnes();
         aKnownOne();
         whatIsLeftGoesToTheFirstGreatest();
         theSeventhLookDoesNotCount();
         reckonedFromTheBeginning();
         whatWasToldSince();
         notByForty();
+        whatWasToldBehindAKnownOne();
         lineOfDone();
+        lineThatIsJustReached();
         farShares();
         reckonedIsRefused();
         check.end();
@@ -69,6 +72,25 @@ public final class ReckonTest {
         }
         tableAsAtFirst(x, 1);
         sky(x, 111, 778, 111);
+    }
+
+    // 3340, 3330, 23310 of 29980, and 1 that is left to RIGHT; a sky of LEFT ones alone has 0 of others, made 1
+    private static void rightOnes() {
+        LooksByMany x = new LooksByMany();
+        x.picture(2, 0, 1, false);
+        x.looker(0);
+        x.look(0, 0, 2);
+        check.due("reckon()", x.reckon(), 2);
+        odds(x, 0, 111, 111, 778);
+        sky(x, 111, 111, 778);
+        LooksByMany y = new LooksByMany();
+        y.picture(2, 0, 1, true);
+        check.due("reckon()", y.reckon(), 2);
+        sky(y, 1, 1, 1000);
+        y.picture(0, 0, 1, true);
+        y.picture(2, 0, 1, true);
+        y.reckon();
+        sky(y, 334, 1, 666);
     }
 
     // the rows of kinds without odds stay as they were, and a sky of 0 is made 1
@@ -174,6 +196,15 @@ public final class ReckonTest {
         odds(x, 1, 0, 1000, 0);
     }
 
+    private static void whatWasToldBehindAKnownOne() {
+        LooksByMany x = new LooksByMany();
+        x.picture(1, 0, 1, true);
+        x.reckon();
+        x.picture(1, 0, 1, false);
+        odds(x, 0, 0, 1000, 0);
+        odds(x, 1, 334, 333, 333);
+    }
+
     private static void lineOfDone() {
         LooksByMany x = new LooksByMany();
         x.picture(1, 0, 1, false);
@@ -186,6 +217,22 @@ public final class ReckonTest {
         Make.laws(x, "line 78;");
         check.due("told(0, 7), 778 by a line of 780", x.told(0, 7), 0);
         check.due("count(5)", x.count(5), 0);
+    }
+
+    // 233800, 33300, 33300 of 300400: 778, 110, 110, and 2 that are left: just 780
+    private static void lineThatIsJustReached() {
+        LooksByMany x = new LooksByMany();
+        x.picture(0, 0, 1, false);
+        Make.lookers(x, 0, 0);
+        x.look(0, 0, 3);
+        x.look(1, 0, 0);
+        check.due("reckon()", x.reckon(), 2);
+        odds(x, 0, 780, 110, 110);
+        Make.laws(x, "line 78;");
+        check.due("told(0, 7), 780 by a line of 780", x.told(0, 7), 1);
+        check.due("count(5)", x.count(5), 1);
+        Make.laws(x, "line 79;");
+        check.due("told(0, 7), 780 by a line of 790", x.told(0, 7), 0);
     }
 
     // far ones: 111 and 334 SMOOTH, 778 and 333 LEFT, 111 and 333 RIGHT; the near one is not of them

@@ -35,9 +35,11 @@ public final class TreesTest {
         check.due("things(8)", x.things(8), 8);
         x.weight(7, 50);
         x.question(5, 128);
+        x.question(0, 7);
         check.due("things(8) again", x.things(8), 8);
         check.due("weights are 1", x.weight(7, 2), 1);
         check.due("questions are of none", x.question(5, 3), 0);
+        check.due("nor is the first", x.question(0, 0), 0);
         check.due("a refusal leaves things", x.things(0), OUTSIDE);
         check.due("weight is kept", x.weight(7, 2), 2);
         check.due("question is kept", x.question(5, 3), 3);
