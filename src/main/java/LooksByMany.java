@@ -362,7 +362,7 @@ public final class LooksByMany {
         return isWithin(rule, BY_NUMBER, BY_DEPTH);
     }
 
-    // the shift without a sign makes a set below 0 one with bits that there are not
+    // a set below 0 has bits that there are not: the shift leaves these
     private static boolean isPart(int set, int size) {
         return set >>> size == 0;
     }
