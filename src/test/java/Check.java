@@ -2,12 +2,18 @@
 final class Check {
     private int asked;
     private int wrong;
+    private String sentence = "";
+
+    /** The words of the document that the answers from here on are due to. */
+    void sentence(String words) {
+        sentence = "\"" + words + "\": ";
+    }
 
     void due(String call, long got, long want) {
         asked++;
         if (got != want) {
             wrong++;
-            System.out.println(call + " answered " + got + ", due is " + want);
+            System.out.println(sentence + call + " answered " + got + ", due is " + want);
         }
     }
 

@@ -1,6 +1,6 @@
 /** Promises 15 to 17: whom to show what next, evenings, who stays and who goes. */
 public final class EveningsTest {
-    private static final int NONE = -1, UNKNOWN = -1001, OUTSIDE = -1002;
+    private static final int NONE = -1;
     private static final Check check = new Check();
 
     public static void main(String[] args) {
@@ -8,13 +8,11 @@ public final class EveningsTest {
         likeOnesByRules();
         leastGreatestOdds();
         doneOnesAreNotShown();
-        nextIsRefused();
         whoStays();
         onlyTheLastOnesMatter();
         anEveningByNumbers();
         anEveningEndsForThoseWhoGo();
         anEveningHasNothingToShow();
-        eveningsAreRefused();
         check.end();
     }
 
@@ -86,17 +84,6 @@ public final class EveningsTest {
                 x.next(1, 0), x.told(0, 7) == 0 ? 0 : NONE);
     }
 
-    private static void nextIsRefused() {
-        LooksByMany x = new LooksByMany();
-        check.due("next(0, 0)", x.next(0, 0), UNKNOWN);
-        x.looker(0);
-        check.due("next(0, 0) without pictures", x.next(0, 0), NONE);
-        check.due("next(0, -1)", x.next(0, -1), OUTSIDE);
-        check.due("next(0, 3)", x.next(0, 3), OUTSIDE);
-        check.due("next(1, 3)", x.next(1, 3), UNKNOWN);
-        check.due("next(-1, 0)", x.next(-1, 0), UNKNOWN);
-    }
-
     private static void whoStays() {
         LooksByMany x = new LooksByMany();
         Make.pictures(x, 3, 1, 1, 1);
@@ -110,8 +97,6 @@ public final class EveningsTest {
         check.due("another stays", x.stays(1), 1);
         x.look(0, 3, 1);
         check.due("stays after a near one", x.stays(0), 1);
-        check.due("stays(2)", x.stays(2), UNKNOWN);
-        check.due("stays(-1)", x.stays(-1), UNKNOWN);
     }
 
     private static void onlyTheLastOnesMatter() {
@@ -164,20 +149,5 @@ public final class EveningsTest {
         check.due("both are done after two looks", x.evening(7, 20, 0), 4);
         check.due("the third came to one of them in its turn", x.about(2, 0), 2);
         check.due("by the second turn one look was left", x.about(3, 0), 0);
-    }
-
-    private static void eveningsAreRefused() {
-        LooksByMany x = new LooksByMany();
-        Make.pictures(x, 2, 1, 0, 1);
-        Make.lookers(x, 0, 0);
-        check.due("bits", x.evening(4, 1, 0), UNKNOWN);
-        check.due("bits below 0", x.evening(-1, 1, 0), UNKNOWN);
-        check.due("bits ahead of turns", x.evening(7, 0, 9), UNKNOWN);
-        check.due("no turns", x.evening(3, 0, 0), OUTSIDE);
-        check.due("21 turns", x.evening(3, 21, 0), OUTSIDE);
-        check.due("rule -1", x.evening(3, 1, -1), OUTSIDE);
-        check.due("rule 3", x.evening(3, 1, 3), OUTSIDE);
-        check.due("count(2)", x.count(2), 0);
-        check.due("20 turns", x.evening(3, 20, 0), 4);
     }
 }

@@ -46,6 +46,87 @@ final class Make {
         }
     }
 
+    /**
+     * Something of all there is: 5 pictures (1 known, 2 the mirror of 0, 4 told since all was reckoned), 3 lookers
+     * (2 without looks), 8 looks, laws, the fault of a text that was read since, a text that is not read yet, 4 things.
+     */
+    static LooksByMany something() {
+        LooksByMany x = new LooksByMany();
+        laws(x, "far 50; lean 40; patience 1; sure 60;");
+        laws(x, "far x");
+        text(x, "tire 7");
+        x.picture(1, 0, 3, false);
+        x.picture(2, 1, 9, true);
+        x.mirror(0);
+        x.picture(0, 1, 0, false);
+        lookers(x, 0, 4, 5);
+        looks(x, 0, 1, 2, 1, 0);
+        looks(x, 1, 1, 2, 2);
+        x.reckon();
+        x.picture(2, 0, 8, false);
+        x.look(1, 4, 3);
+        x.things(4);
+        x.weight(1, 9);
+        x.question(0, 3);
+        x.question(4, 5);
+        x.seed(77);
+        return x;
+    }
+
+    /** The same, with 24 pictures. */
+    static LooksByMany fullOfPictures() {
+        LooksByMany x = something();
+        pictures(x, 19, 1, 0, 1);
+        return x;
+    }
+
+    /** The same, with 8 lookers. */
+    static LooksByMany fullOfLookers() {
+        LooksByMany x = something();
+        lookers(x, 0, 1, 2, 3, 4);
+        return x;
+    }
+
+    /** The same, with a text of 160 bytes. */
+    static LooksByMany fullOfText() {
+        LooksByMany x = something();
+        text(x, " ".repeat(160 - x.count(6)));
+        return x;
+    }
+
+    /** All the looks there can be: 24 near pictures, 8 lookers, one look of each at each, with one answer. */
+    static LooksByMany fullOfLooks(int answer) {
+        LooksByMany x = new LooksByMany();
+        pictures(x, 24, 1, 0, 1);
+        lookers(x, 0, 0, 0, 0, 0, 0, 0, 0);
+        for (int k = 0; k < 192; k++) {
+            x.look(k % 8, k / 8, answer);
+        }
+        return x;
+    }
+
+    /** Pictures and looks that change until the 39th round; the 40th changes nothing. */
+    static LooksByMany settledByForty() {
+        LooksByMany x = new LooksByMany();
+        x.picture(0, 0, 0, false);
+        x.picture(1, 0, 0, true);
+        x.picture(0, 0, 0, false);
+        x.looker(0);
+        looks(x, 0, 2, 0, 0);
+        return x;
+    }
+
+    /** Pictures and looks that still change in the 40th round; a 41st would change nothing. */
+    static LooksByMany settledByFortyOne() {
+        LooksByMany x = new LooksByMany();
+        x.picture(1, 0, 0, false);
+        x.picture(2, 0, 0, true);
+        x.picture(0, 0, 0, false);
+        x.looker(0);
+        looks(x, 0, 3, 3, 1);
+        return x;
+    }
+
     static long after(long seed) {
         return (seed * 1103515245L + 12345L) % (1L << 31);
     }

@@ -5,7 +5,7 @@ import java.util.Random;
  * far out of their bounds, so that refusals, too, are asked for in every state.
  */
 public final class ModelTest {
-    private static final int RUNS = 400, CALLS = 512;
+    private static final int RUNS = 700, CALLS = 512, MOST_AT_ONCE = 110;
     private static final int[] STRANGE = {-1, Integer.MIN_VALUE, Integer.MAX_VALUE, 24, 200, 256, -1001, 1 << 8};
     private static final String[] WORDS =
             {"sharp", "far", "lean", "tire", "line", "most", "patience", "sure", "fa", "suree", "X"};
@@ -16,6 +16,7 @@ public final class ModelTest {
     private final Model m = new Model();
     private final int strangeness;
     private final int run;
+    private int calls;
 
     private ModelTest(int run) {
         this.run = run;
@@ -39,12 +40,14 @@ public final class ModelTest {
         for (int i = 0; i < lookers; i++) {
             makeLooker();
         }
-        for (int i = pictures + lookers; i < CALLS; i++) {
+        while (calls < CALLS - MOST_AT_ONCE) {
             call();
         }
+        check.isTrue("run " + run + " has no more than 512 calls: " + calls, calls <= CALLS);
     }
 
     private void due(String call, long got, long want) {
+        calls++;
         check.due("run " + run + ": " + call, got, want);
     }
 
@@ -117,9 +120,13 @@ public final class ModelTest {
                 text.insert(at, (char) random.nextInt(256));
             }
         }
-        for (int at = 0; at < text.length(); at++) {
-            long bytes = random.nextLong() << 8 | text.charAt(at);
-            due("feed", x.feed(1, bytes), m.feed(1, bytes));
+        for (int at = 0; at < text.length();) {
+            int n = 1 + random.nextInt(Math.min(8, text.length() - at));
+            long bytes = random.nextLong();
+            for (int i = 0; i < n; i++, at++) {
+                bytes = bytes << 8 | text.charAt(at);
+            }
+            due("feed", x.feed(n, bytes), m.feed(n, bytes));
         }
         if (random.nextInt(10) == 0) {
             int n = any(1, 9);

@@ -1,23 +1,16 @@
 /** Promises 18 to 22: what is reckoned, odds, tables, the sky, shares of far ones. */
 public final class ReckonTest {
-    private static final int UNKNOWN = -1001, OUTSIDE = -1002;
     private static final Check check = new Check();
 
     public static void main(String[] args) {
         nothingChanges();
         oneLook();
-        rightOnes();
         aKnownOne();
         whatIsLeftGoesToTheFirstGreatest();
-        theSeventhLookDoesNotCount();
         reckonedFromTheBeginning();
-        whatWasToldSince();
         notByForty();
-        whatWasToldBehindAKnownOne();
         lineOfDone();
-        lineThatIsJustReached();
         farShares();
-        reckonedIsRefused();
         check.end();
     }
 
@@ -74,25 +67,6 @@ public final class ReckonTest {
         sky(x, 111, 778, 111);
     }
 
-    // 3340, 3330, 23310 of 29980, and 1 that is left to RIGHT; a sky of LEFT ones alone has 0 of others, made 1
-    private static void rightOnes() {
-        LooksByMany x = new LooksByMany();
-        x.picture(2, 0, 1, false);
-        x.looker(0);
-        x.look(0, 0, 2);
-        check.due("reckon()", x.reckon(), 2);
-        odds(x, 0, 111, 111, 778);
-        sky(x, 111, 111, 778);
-        LooksByMany y = new LooksByMany();
-        y.picture(2, 0, 1, true);
-        check.due("reckon()", y.reckon(), 2);
-        sky(y, 1, 1, 1000);
-        y.picture(0, 0, 1, true);
-        y.picture(2, 0, 1, true);
-        y.reckon();
-        sky(y, 334, 1, 666);
-    }
-
     // the rows of kinds without odds stay as they were, and a sky of 0 is made 1
     private static void aKnownOne() {
         LooksByMany x = new LooksByMany();
@@ -128,26 +102,6 @@ public final class ReckonTest {
         sky(y, 334, 333, 333);
     }
 
-    private static void theSeventhLookDoesNotCount() {
-        LooksByMany x = new LooksByMany();
-        x.picture(1, 0, 1, false);
-        Make.lookers(x, 0, 0, 0, 0, 0, 0, 0, 0);
-        LooksByMany y = new LooksByMany();
-        y.picture(1, 0, 1, false);
-        Make.lookers(y, 0, 0, 0, 0, 0, 0, 0, 0);
-        for (int l = 0; l < 6; l++) {
-            x.look(l, 0, l % 3);
-            y.look(l, 0, l % 3);
-        }
-        x.look(6, 0, 2);
-        x.look(7, 0, 2);
-        check.due("reckon()", x.reckon(), y.reckon());
-        odds(x, 0, y.odds(0, 0), y.odds(0, 1), y.odds(0, 2));
-        tableAsAtFirst(x, 6);
-        tableAsAtFirst(x, 7);
-        table(x, 5, 2, 1, 1, 97, 1);
-    }
-
     private static void reckonedFromTheBeginning() {
         LooksByMany x = new LooksByMany();
         x.picture(1, 0, 5, false);
@@ -164,25 +118,6 @@ public final class ReckonTest {
         tableAsAtFirst(x, 2);
     }
 
-    private static void whatWasToldSince() {
-        LooksByMany x = new LooksByMany();
-        x.picture(1, 0, 1, false);
-        x.looker(0);
-        x.look(0, 0, 1);
-        x.reckon();
-        x.picture(2, 0, 1, true);
-        x.mirror(0);
-        x.looker(0);
-        x.look(1, 0, 2);
-        odds(x, 0, 111, 778, 111);
-        odds(x, 1, 334, 333, 333);
-        odds(x, 2, 334, 333, 333);
-        tableAsAtFirst(x, 1);
-        sky(x, 111, 778, 111);
-        x.reckon();
-        odds(x, 1, 0, 0, 1000);
-    }
-
     private static void notByForty() {
         LooksByMany x = new LooksByMany();
         x.picture(0, 1, 0, false);
@@ -194,15 +129,6 @@ public final class ReckonTest {
         check.due("reckon()", x.reckon(), -41);
         check.due("odds(0, 0), as the fortieth round left it", x.odds(0, 0), 544);
         odds(x, 1, 0, 1000, 0);
-    }
-
-    private static void whatWasToldBehindAKnownOne() {
-        LooksByMany x = new LooksByMany();
-        x.picture(1, 0, 1, true);
-        x.reckon();
-        x.picture(1, 0, 1, false);
-        odds(x, 0, 0, 1000, 0);
-        odds(x, 1, 334, 333, 333);
     }
 
     private static void lineOfDone() {
@@ -217,22 +143,6 @@ public final class ReckonTest {
         Make.laws(x, "line 78;");
         check.due("told(0, 7), 778 by a line of 780", x.told(0, 7), 0);
         check.due("count(5)", x.count(5), 0);
-    }
-
-    // 233800, 33300, 33300 of 300400: 778, 110, 110, and 2 that are left: just 780
-    private static void lineThatIsJustReached() {
-        LooksByMany x = new LooksByMany();
-        x.picture(0, 0, 1, false);
-        Make.lookers(x, 0, 0);
-        x.look(0, 0, 3);
-        x.look(1, 0, 0);
-        check.due("reckon()", x.reckon(), 2);
-        odds(x, 0, 780, 110, 110);
-        Make.laws(x, "line 78;");
-        check.due("told(0, 7), 780 by a line of 780", x.told(0, 7), 1);
-        check.due("count(5)", x.count(5), 1);
-        Make.laws(x, "line 79;");
-        check.due("told(0, 7), 780 by a line of 790", x.told(0, 7), 0);
     }
 
     // far ones: 111 and 334 SMOOTH, 778 and 333 LEFT, 111 and 333 RIGHT; the near one is not of them
@@ -251,27 +161,5 @@ public final class ReckonTest {
                 check.due("far(" + row[0] + ", " + kind + ")", x.far(row[0], kind), row[1 + kind]);
             }
         }
-    }
-
-    private static void reckonedIsRefused() {
-        LooksByMany x = new LooksByMany();
-        x.picture(1, 1, 1, false);
-        x.looker(0);
-        check.due("odds(1, 0)", x.odds(1, 0), UNKNOWN);
-        check.due("odds(-1, 3)", x.odds(-1, 3), UNKNOWN);
-        check.due("odds(0, 3)", x.odds(0, 3), OUTSIDE);
-        check.due("odds(0, -1)", x.odds(0, -1), OUTSIDE);
-        check.due("table(1, 0, 0)", x.table(1, 0, 0), UNKNOWN);
-        check.due("table(-1, 9, 9)", x.table(-1, 9, 9), UNKNOWN);
-        check.due("table(0, 3, 0)", x.table(0, 3, 0), OUTSIDE);
-        check.due("table(0, -1, 0)", x.table(0, -1, 0), OUTSIDE);
-        check.due("table(0, 0, 4)", x.table(0, 0, 4), OUTSIDE);
-        check.due("table(0, 0, -1)", x.table(0, 0, -1), OUTSIDE);
-        check.due("sky(3)", x.sky(3), OUTSIDE);
-        check.due("sky(-1)", x.sky(-1), OUTSIDE);
-        check.due("far(-1, 0)", x.far(-1, 0), OUTSIDE);
-        check.due("far(101, 0)", x.far(101, 0), OUTSIDE);
-        check.due("far(0, 3)", x.far(0, 3), OUTSIDE);
-        check.due("far(0, -1)", x.far(0, -1), OUTSIDE);
     }
 }

@@ -1,13 +1,12 @@
 /** Promises 27 to 31: things, weights, questions, the best tree, and what a wrong turn costs. */
 public final class TreesTest {
-    private static final int NONE = -1, OUTSIDE = -1002;
+    private static final int NONE = -1;
     private static final Check check = new Check();
 
     public static void main(String[] args) {
         thingsBeginAnew();
         weightsBecome();
         questionsBecome();
-        treesAreRefused();
         halvesAreBest();
         weightsBendTheTree();
         likeQuestionsTheLeastFirst();
@@ -28,9 +27,6 @@ public final class TreesTest {
 
     private static void thingsBeginAnew() {
         LooksByMany x = new LooksByMany();
-        check.due("things(1)", x.things(1), OUTSIDE);
-        check.due("things(9)", x.things(9), OUTSIDE);
-        check.due("things(-1)", x.things(-1), OUTSIDE);
         check.due("things(2)", x.things(2), 2);
         check.due("things(8)", x.things(8), 8);
         x.weight(7, 50);
@@ -40,41 +36,19 @@ public final class TreesTest {
         check.due("weights are 1", x.weight(7, 2), 1);
         check.due("questions are of none", x.question(5, 3), 0);
         check.due("nor is the first", x.question(0, 0), 0);
-        check.due("a refusal leaves things", x.things(0), OUTSIDE);
-        check.due("weight is kept", x.weight(7, 2), 2);
-        check.due("question is kept", x.question(5, 3), 3);
     }
 
     private static void weightsBecome() {
         LooksByMany x = of(3);
         check.due("weight(0, 99)", x.weight(0, 99), 1);
-        check.due("weight(0, 100)", x.weight(0, 100), OUTSIDE);
-        check.due("weight(0, 0)", x.weight(0, 0), OUTSIDE);
-        check.due("weight(3, 1)", x.weight(3, 1), OUTSIDE);
-        check.due("weight(-1, 1)", x.weight(-1, 1), OUTSIDE);
         check.due("weight(0, 1)", x.weight(0, 1), 99);
     }
 
     private static void questionsBecome() {
         LooksByMany x = of(3);
         check.due("question(0, 7)", x.question(0, 7), 0);
-        check.due("question(0, 8)", x.question(0, 8), OUTSIDE);
-        check.due("question(0, -1)", x.question(0, -1), OUTSIDE);
-        check.due("question(-1, 1)", x.question(-1, 1), OUTSIDE);
-        check.due("question(6, 1)", x.question(6, 1), OUTSIDE);
         check.due("question(0, 0)", x.question(0, 0), 7);
         check.due("question(5, 1)", x.question(5, 1), 0);
-    }
-
-    private static void treesAreRefused() {
-        LooksByMany x = of(3, 1);
-        check.due("tree(0, 0)", x.tree(0, 0), OUTSIDE);
-        check.due("tree(8, 0)", x.tree(8, 0), OUTSIDE);
-        check.due("tree(-1, 0)", x.tree(-1, 0), OUTSIDE);
-        check.due("tree(7, -1)", x.tree(7, -1), OUTSIDE);
-        check.due("tree(7, 3)", x.tree(7, 3), OUTSIDE);
-        check.due("wrong(3)", x.wrong(3), OUTSIDE);
-        check.due("wrong(-1)", x.wrong(-1), OUTSIDE);
     }
 
     private static void tree(LooksByMany x, int set, int asks, int first, int depth) {
