@@ -119,6 +119,8 @@ public final class EdgeLooksTest {
         steered.saysAfter(2, TIRED, 1, 0, "", 2, 80, 2);
         steered.saysAfter(3, TIRED, 1, 1, "", 1, 44);
         steered.saysAfter(3, TIRED, 1, 1, "", 0, 45);
+        steered.saysAfter(4, TIRED, 1, 0, "", 1, 69);
+        steered.saysAfter(4, TIRED, 1, 0, "", 2, 70, 2);
         steered.saysAfter(4, TIRED, 1, 0, "tire 0;", 1, 89);
         steered.saysAfter(4, CAREFUL, 1, 0, "tire 99;", 1, 89);
     }

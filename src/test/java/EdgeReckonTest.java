@@ -227,6 +227,16 @@ public final class EdgeReckonTest {
         table(x, 0, 0, 70, 10, 10, 10);
         table(x, 0, 1, 1, 1, 1, 97);
         table(x, 0, 2, 10, 10, 70, 10);
+        // here SMOOTH and RIGHT have odds at first and none in the end: as it was by the round before, not at first
+        LooksByMany y = new LooksByMany();
+        y.picture(1, 0, 0, false);
+        y.picture(1, 0, 0, true);
+        y.looker(0);
+        y.look(0, 0, 2);
+        check.due("reckon()", y.reckon(), 12);
+        odds(y, 0, 0, 1000, 0);
+        table(y, 0, 0, 1, 1, 97, 1);
+        table(y, 0, 2, 1, 1, 97, 1);
     }
 
     // by the 16th round RIGHT has odds of 1 at the second picture and of 0 at the first: of the two answers one is all

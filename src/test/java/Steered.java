@@ -17,13 +17,13 @@ final class Steered {
         said(x, 0, "sort " + sort + " at " + kind + far + depth + " by '" + laws + "'", want, draws);
     }
 
-    /** One looker of a sort that has looked some times before, by hand, at like pictures. */
+    /** One looker of a sort that has looked some times before, by hand, with any answers, at like pictures. */
     void saysAfter(int before, int sort, int kind, int far, String laws, int want, int... draws) {
         LooksByMany x = new LooksByMany();
         Make.pictures(x, before + 1, kind, far, 1);
         Make.lookers(x, sort, CAREFUL);
         for (int p = 0; p < before; p++) {
-            x.look(0, p, 1);
+            x.look(0, p, p % 4);
         }
         // the looks of others do not tire it
         x.look(1, before, 0);
