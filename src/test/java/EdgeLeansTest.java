@@ -32,16 +32,6 @@ public final class EdgeLeansTest {
         check.end();
     }
 
-    /** Pictures 0, 2, 4 .. each with its mirror behind it, and two lookers. */
-    private static LooksByMany mirrored(int pairs) {
-        LooksByMany x = new LooksByMany();
-        for (int i = 0; i < pairs; i++) {
-            x.mirror(x.picture(1, 0, 1, false));
-        }
-        Make.lookers(x, CAREFUL, CAREFUL);
-        return x;
-    }
-
     private static void lean(LooksByMany x, int lean, int pairs) {
         check.due("lean(0, 0)", x.lean(0, 0), lean);
         check.due("lean(0, 1)", x.lean(0, 1), pairs);
@@ -49,7 +39,7 @@ public final class EdgeLeansTest {
 
     private static void pairsWithAMirror() {
         check.sentence("of its pairs of LOOKS at a PICTURE and a MIRROR of it");
-        LooksByMany x = mirrored(2);
+        LooksByMany x = Make.mirrored(2);
         x.look(0, 0, 1);
         lean(x, NONE, 0);
         x.look(1, 1, 1);
@@ -75,7 +65,7 @@ public final class EdgeLeansTest {
         check.sentence("both ANSWERED 1 or 2: (those both LEFT, less those both RIGHT) times 100 / all such pairs");
         for (int answer = 0; answer <= 3; answer++) {
             for (int mirrored = 0; mirrored <= 3; mirrored++) {
-                LooksByMany x = mirrored(1);
+                LooksByMany x = Make.mirrored(1);
                 x.look(0, 0, answer);
                 x.look(0, 1, mirrored);
                 boolean isPair = answer % 3 != 0 && mirrored % 3 != 0;
@@ -86,22 +76,22 @@ public final class EdgeLeansTest {
 
     private static void leansAreCut() {
         check.sentence("/ cuts towards 0");
-        LooksByMany left = mirrored(3);
+        LooksByMany left = Make.mirrored(3);
         Make.looks(left, 0, 1, 1, 1, 2, 2, 1);
         lean(left, 1033, 3);
-        LooksByMany right = mirrored(3);
+        LooksByMany right = Make.mirrored(3);
         Make.looks(right, 0, 2, 2, 1, 2, 2, 1);
         lean(right, 967, 3);
-        LooksByMany twice = mirrored(3);
+        LooksByMany twice = Make.mirrored(3);
         Make.looks(twice, 0, 2, 2, 2, 2, 2, 1);
         lean(twice, 934, 3);
     }
 
     private static void noPairs() {
         check.sentence("told as 1000 and it; NONE: there are no such pairs");
-        lean(mirrored(0), NONE, 0);
-        lean(mirrored(2), NONE, 0);
-        LooksByMany x = mirrored(2);
+        lean(Make.mirrored(0), NONE, 0);
+        lean(Make.mirrored(2), NONE, 0);
+        LooksByMany x = Make.mirrored(2);
         Make.looks(x, 0, 1, 1, 2, 2);
         lean(x, 1000, 2);
         check.due("lean(1, 0) of one without looks", x.lean(1, 0), NONE);
@@ -111,7 +101,7 @@ public final class EdgeLeansTest {
     private static void allPairs() {
         check.sentence("pairs of that (1)");
         for (int answer = 1; answer <= 2; answer++) {
-            LooksByMany x = mirrored(12);
+            LooksByMany x = Make.mirrored(12);
             LooksByMany y = new LooksByMany();
             y.picture(1, 0, 1, false);
             y.looker(CAREFUL);

@@ -36,12 +36,7 @@ public final class EdgeTermsTest {
 
     private static void cutsTowardsNought() {
         check.sentence("/ cuts towards 0");
-        LooksByMany x = new LooksByMany();
-        for (int p = 0; p < 6; p += 2) {
-            x.picture(1, 0, 1, false);
-            x.mirror(p);
-        }
-        Make.lookers(x, 0, 0);
+        LooksByMany x = Make.mirrored(3);
         Make.looks(x, 0, 1, 1, 1, 2, 2, 1);
         Make.looks(x, 1, 2, 2, 1, 2, 2, 1);
         check.due("100 / 3", x.lean(0, 0), 1033);

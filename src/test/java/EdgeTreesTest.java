@@ -33,15 +33,6 @@ public final class EdgeTreesTest {
         check.end();
     }
 
-    private static LooksByMany of(int n, int... questions) {
-        LooksByMany x = new LooksByMany();
-        x.things(n);
-        for (int k = 0; k < questions.length; k++) {
-            x.question(k, questions[k]);
-        }
-        return x;
-    }
-
     private static void weights(LooksByMany x, int... weights) {
         for (int t = 0; t < weights.length; t++) {
             x.weight(t, weights[t]);
@@ -79,7 +70,7 @@ public final class EdgeTreesTest {
 
     private static void weightsOfOneToNinetyNine() {
         check.sentence("have WEIGHTS (1 .. 99; 1 at first)");
-        LooksByMany x = of(8, 1);
+        LooksByMany x = Make.things(8, 1);
         for (int t = 0; t < 8; t++) {
             check.due("weight(" + t + ", 99)", x.weight(t, 99), 1);
             check.due("weight(" + t + ", 1)", x.weight(t, 1), 99);
@@ -100,19 +91,19 @@ public final class EdgeTreesTest {
     private static void setsOfQuestions() {
         check.sentence("a SET of THINGS for which it is yes");
         // of none, of all: such a question parts nothing
-        tree(of(8, 0), 255, 0, NONE, 0);
-        tree(of(8, 255), 255, 0, NONE, 0);
-        tree(of(8, 0, 255, 128), 255, 8, 2, 1);
-        tree(of(8, 0, 255, 127), 255, 8, 2, 1);
+        tree(Make.things(8, 0), 255, 0, NONE, 0);
+        tree(Make.things(8, 255), 255, 0, NONE, 0);
+        tree(Make.things(8, 0, 255, 128), 255, 8, 2, 1);
+        tree(Make.things(8, 0, 255, 127), 255, 8, 2, 1);
         // it is of all of a smaller set, or of none of it
-        tree(of(8, 15), 15, 0, NONE, 0);
-        tree(of(8, 15), 240, 0, NONE, 0);
-        tree(of(8, 15), 24, 2, 0, 1);
+        tree(Make.things(8, 15), 15, 0, NONE, 0);
+        tree(Make.things(8, 15), 240, 0, NONE, 0);
+        tree(Make.things(8, 15), 24, 2, 0, 1);
     }
 
     private static void oneThing() {
         check.sentence("A TREE asks until THINGS that are left are one");
-        LooksByMany x = of(8, 1, 2, 4, 8, 16, 32);
+        LooksByMany x = Make.things(8, 1, 2, 4, 8, 16, 32);
         for (int t = 0; t < 8; t++) {
             tree(x, 1 << t, 0, NONE, 0);
         }
@@ -122,7 +113,7 @@ public final class EdgeTreesTest {
     private static void nothingParts() {
         check.sentence("or no QUESTION parts them");
         tree(new LooksByMany(), 3, 0, NONE, 0);
-        LooksByMany x = of(8, 1, 2, 4, 8, 16, 32);
+        LooksByMany x = Make.things(8, 1, 2, 4, 8, 16, 32);
         tree(x, 192, 0, NONE, 0);
         tree(x, 224, 3, 5, 1);
     }
@@ -130,14 +121,14 @@ public final class EdgeTreesTest {
     private static void whatIsPartedPart() {
         check.sentence("THE BEST TREE: those that part all that can be parted");
         // to ask nothing would be no ASKS at all
-        tree(of(4, 3, 5), 15, 8, 0, 2);
-        tree(of(4, 3), 15, 4, 0, 1);
+        tree(Make.things(4, 3, 5), 15, 8, 0, 2);
+        tree(Make.things(4, 3), 15, 4, 0, 1);
     }
 
     private static void sumOfAsks() {
         check.sentence("ASKS: the sum over THINGS of WEIGHT times QUESTIONS asked");
         // 9 once, 3 twice, 2 and 1 three times
-        LooksByMany x = of(4, 1, 2, 4);
+        LooksByMany x = Make.things(4, 1, 2, 4);
         weights(x, 9, 3, 2, 1);
         tree(x, 15, 24, 0, 3);
         tree(x, 14, 9, 1, 2);
@@ -148,26 +139,26 @@ public final class EdgeTreesTest {
     private static void mostAsks() {
         check.sentence("ASKS: the sum over THINGS of WEIGHT times QUESTIONS asked");
         // one by one: 1 + 2 + 3 + 4 + 5 + 6 + 6 + 6 asked of weights 99
-        LooksByMany x = of(8, 1, 2, 4, 8, 16, 32);
+        LooksByMany x = Make.things(8, 1, 2, 4, 8, 16, 32);
         weights(x, 99, 99, 99, 99, 99, 99, 99, 99);
         tree(x, 255, 3267, 0, 6);
     }
 
     private static void leastOfLikeOnes() {
         check.sentence("the first QUESTION of it (of like ones the least");
-        tree(of(2, 0, 3, 2, 1), 3, 2, 2, 1);
-        tree(of(2, 0, 0, 0, 0, 1, 2), 3, 2, 4, 1);
+        tree(Make.things(2, 0, 3, 2, 1), 3, 2, 2, 1);
+        tree(Make.things(2, 0, 0, 0, 0, 1, 2), 3, 2, 4, 1);
         // 2 once, 1 twice, 1 and 1 three times are 10, as all twice are
-        LooksByMany x = of(4, 1, 2, 4, 3);
+        LooksByMany x = Make.things(4, 1, 2, 4, 3);
         weights(x, 2, 1, 1, 1);
         tree(x, 15, 10, 0, 3);
-        LooksByMany y = of(4, 3, 1, 2, 4);
+        LooksByMany y = Make.things(4, 3, 1, 2, 4);
         weights(y, 2, 1, 1, 1);
         tree(y, 15, 10, 0, 2);
     }
 
     private static LooksByMany likeOnesFurtherOn(int... questions) {
-        LooksByMany x = of(5, questions);
+        LooksByMany x = Make.things(5, questions);
         weights(x, 2, 1, 1, 1, 99);
         return x;
     }
@@ -181,18 +172,18 @@ public final class EdgeTreesTest {
     private static void leastAsks() {
         check.sentence("with the least ASKS");
         // by halves first, though it is the greatest of the questions
-        tree(of(4, 1, 2, 4, 8, 0, 3), 15, 8, 5, 2);
-        LooksByMany x = of(4, 1, 2, 4, 8, 0, 3);
+        tree(Make.things(4, 1, 2, 4, 8, 0, 3), 15, 8, 5, 2);
+        LooksByMany x = Make.things(4, 1, 2, 4, 8, 0, 3);
         weights(x, 99, 1, 1, 1);
         tree(x, 15, 107, 0, 3);
     }
 
     private static void otherSide() {
         check.sentence("WRONG TURN: THINGS that can be come to, if the first ANSWER is wrong");
-        LooksByMany x = of(2, 1);
+        LooksByMany x = Make.things(2, 1);
         check.due("wrong(0)", x.wrong(0), 2);
         check.due("wrong(1)", x.wrong(1), 1);
-        LooksByMany y = of(8, 0x0F, 0x33, 0x55);
+        LooksByMany y = Make.things(8, 0x0F, 0x33, 0x55);
         for (int t = 0; t < 8; t++) {
             check.due("wrong(" + t + ")", y.wrong(t), 1 << (t ^ 4));
         }
@@ -201,20 +192,20 @@ public final class EdgeTreesTest {
     private static void noQuestion() {
         check.sentence("the SET (0: there is no QUESTION)");
         edges.answers("wrong of two, no question", 0, new LooksByMany()::wrong, 0, 0);
-        edges.answers("wrong of three, a question of all", 0, of(3, 7)::wrong, 0, 0, 0);
-        edges.answers("wrong of three, a question of one", 0, of(3, 4)::wrong, 4, 4, 3);
+        edges.answers("wrong of three, a question of all", 0, Make.things(3, 7)::wrong, 0, 0, 0);
+        edges.answers("wrong of three, a question of one", 0, Make.things(3, 4)::wrong, 4, 4, 3);
     }
 
     private static void moreThanOneLeft() {
         check.sentence("what is left at the end (a SET: of those on the other side");
-        edges.answers("wrong", 0, of(8, 1)::wrong, 254, 1, 1, 1, 1, 1, 1, 1);
+        edges.answers("wrong", 0, Make.things(8, 1)::wrong, 254, 1, 1, 1, 1, 1, 1, 1);
         // the first question takes 0 and 1 away; of 2, 3, 4 the second takes 2
-        edges.answers("wrong", 0, of(5, 3, 4)::wrong, 24, 24, 3, 3, 3);
+        edges.answers("wrong", 0, Make.things(5, 3, 4)::wrong, 24, 24, 3, 3, 3);
     }
 
     private static void answeredAsForIt() {
         check.sentence("by QUESTIONS of THE BEST TREE there, answered as they are for t)");
-        edges.answers("wrong", 0, of(5, 3, 5)::wrong, 4, 24, 1, 2, 2);
+        edges.answers("wrong", 0, Make.things(5, 3, 5)::wrong, 4, 24, 1, 2, 2);
     }
 
     private static void wrongTurnOfLikeOnes() {
@@ -233,7 +224,7 @@ public final class EdgeTreesTest {
         int[] weighed = {17, 0, 3};
         int[] asked = {10, 2, 2};
         for (int what = 0; what <= 2; what++) {
-            LooksByMany x = of(4, 1, 3, 4);
+            LooksByMany x = Make.things(4, 1, 3, 4);
             check.due("tree(15, " + what + ")", x.tree(15, what), before[what]);
             x.weight(0, 9);
             check.due("tree(15, " + what + "), 0 is heavier", x.tree(15, what), weighed[what]);
@@ -245,7 +236,7 @@ public final class EdgeTreesTest {
             x.question(5, 6);
             check.due("tree(15, " + what + "), by other questions", x.tree(15, what), asked[what]);
         }
-        LooksByMany y = of(3, 1, 2);
+        LooksByMany y = Make.things(3, 1, 2);
         check.due("wrong(0)", y.wrong(0), 4);
         y.question(0, 0);
         check.due("wrong(0), by one question", y.wrong(0), 2);
@@ -255,7 +246,7 @@ public final class EdgeTreesTest {
 
     private static void thingsBeginAnew() {
         check.sentence("n THINGS, WEIGHTS 1, all QUESTIONS of no THING: n.");
-        LooksByMany x = of(8, 1, 2, 4, 8, 16, 32);
+        LooksByMany x = Make.things(8, 1, 2, 4, 8, 16, 32);
         weights(x, 9, 9, 9, 9, 9, 9, 9, 9);
         tree(x, 255, 297, 0, 6);
         check.due("things(8)", x.things(8), 8);
@@ -290,7 +281,7 @@ public final class EdgeTreesTest {
         edges.bounds("the question", Make::something, 0, 5, OUTSIDE, (x, k) -> x.question(k, 9));
         edges.bounds("the set of question", Make::something, 0, 15, OUTSIDE, (x, set) -> x.question(4, set));
         edges.bounds("the set of two things", LooksByMany::new, 0, 3, OUTSIDE, (x, set) -> x.question(5, set));
-        edges.bounds("the set of eight things", () -> of(8), 0, 255, OUTSIDE, (x, set) -> x.question(0, set));
+        edges.bounds("the set of eight things", () -> Make.things(8), 0, 255, OUTSIDE, (x, set) -> x.question(0, set));
         edges.refused("bits beside things", Make::something, OUTSIDE, x -> x.question(0, 17));
         check.due("what it was", Make.something().question(4, 0), 5);
         check.due("what none was", Make.something().question(5, 0), 0);
@@ -300,7 +291,7 @@ public final class EdgeTreesTest {
         check.sentence("OUTSIDE (the SET: none, or bits; what).");
         edges.bounds("the set of tree", Make::something, 1, 15, OUTSIDE, (x, set) -> x.tree(set, 0));
         edges.bounds("the set of two things", LooksByMany::new, 1, 3, OUTSIDE, (x, set) -> x.tree(set, 1));
-        edges.bounds("the set of eight things", () -> of(8), 1, 255, OUTSIDE, (x, set) -> x.tree(set, 2));
+        edges.bounds("the set of eight things", () -> Make.things(8), 1, 255, OUTSIDE, (x, set) -> x.tree(set, 2));
         edges.bounds("what of tree", Make::something, 0, 2, OUTSIDE, (x, what) -> x.tree(15, what));
         edges.refused("bits beside things", Make::something, OUTSIDE, x -> x.tree(17, 0));
     }
@@ -309,6 +300,6 @@ public final class EdgeTreesTest {
         check.sentence("WRONG TURN of a THING in THE BEST TREE of all: .. OUTSIDE.");
         edges.bounds("wrong", Make::something, 0, 3, OUTSIDE, LooksByMany::wrong);
         edges.bounds("wrong of two things", LooksByMany::new, 0, 1, OUTSIDE, LooksByMany::wrong);
-        edges.bounds("wrong of eight things", () -> of(8, 1), 0, 7, OUTSIDE, LooksByMany::wrong);
+        edges.bounds("wrong of eight things", () -> Make.things(8, 1), 0, 7, OUTSIDE, LooksByMany::wrong);
     }
 }

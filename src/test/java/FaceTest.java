@@ -25,7 +25,6 @@ public final class FaceTest {
     private static final Check check = new Check();
 
     public static void main(String[] args) throws IOException {
-        constants();
         methods();
         nothingElseIsSeen();
         fieldsAreFewAndStaticOnesFinal();
@@ -33,14 +32,6 @@ public final class FaceTest {
         methodsAreShort();
         anyCallsEnd();
         check.end();
-    }
-
-    private static void constants() {
-        check.due("NONE", LooksByMany.NONE, -1);
-        check.due("UNKNOWN", LooksByMany.UNKNOWN, -1001);
-        check.due("OUTSIDE", LooksByMany.OUTSIDE, -1002);
-        check.due("NOT", LooksByMany.NOT, -1003);
-        check.due("FULL", LooksByMany.FULL, -1004);
     }
 
     private static void methods() {

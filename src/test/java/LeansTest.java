@@ -18,18 +18,8 @@ public final class LeansTest {
         check.end();
     }
 
-    /** Pictures 0, 2, 4 .. each with its mirror behind it, and one looker. */
-    private static LooksByMany mirrored(int pairs) {
-        LooksByMany x = new LooksByMany();
-        for (int i = 0; i < pairs; i++) {
-            x.mirror(x.picture(1, 0, 1, false));
-        }
-        x.looker(0);
-        return x;
-    }
-
     private static void leansByMirrors() {
-        LooksByMany x = mirrored(4);
+        LooksByMany x = Make.mirrored(4);
         check.due("lean(0, 0), no pairs", x.lean(0, 0), NONE);
         check.due("lean(0, 1), no pairs", x.lean(0, 1), 0);
         Make.looks(x, 0, 1, 1, 1, 2, 2, 1);
@@ -43,19 +33,19 @@ public final class LeansTest {
     }
 
     private static void leansAreCutTowardsNought() {
-        LooksByMany x = mirrored(3);
+        LooksByMany x = Make.mirrored(3);
         Make.looks(x, 0, 2, 2, 1, 2, 2, 1);
         check.due("one of three to the right", x.lean(0, 0), 967);
-        LooksByMany y = mirrored(1);
+        LooksByMany y = Make.mirrored(1);
         Make.looks(y, 0, 2, 2);
         check.due("all to the right", y.lean(0, 0), 900);
-        LooksByMany z = mirrored(1);
+        LooksByMany z = Make.mirrored(1);
         Make.looks(z, 0, 1, 1);
         check.due("all to the left", z.lean(0, 0), 1100);
     }
 
     private static void onlyArmsAreOfLeans() {
-        LooksByMany x = mirrored(4);
+        LooksByMany x = Make.mirrored(4);
         Make.looks(x, 0, 0, 1, 1, 0, 3, 1, 2, 3);
         check.due("lean(0, 0)", x.lean(0, 0), NONE);
         check.due("lean(0, 1)", x.lean(0, 1), 0);

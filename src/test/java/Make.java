@@ -105,6 +105,26 @@ final class Make {
         return x;
     }
 
+    /** Pictures 0, 2, 4 .. each with its mirror behind it, and two lookers. */
+    static LooksByMany mirrored(int pairs) {
+        LooksByMany x = new LooksByMany();
+        for (int i = 0; i < pairs; i++) {
+            x.mirror(x.picture(1, 0, 1, false));
+        }
+        lookers(x, 0, 0);
+        return x;
+    }
+
+    /** So many things of weight 1, and questions from 0 on. */
+    static LooksByMany things(int n, int... questions) {
+        LooksByMany x = new LooksByMany();
+        x.things(n);
+        for (int k = 0; k < questions.length; k++) {
+            x.question(k, questions[k]);
+        }
+        return x;
+    }
+
     /** Pictures and looks that change until the 39th round; the 40th changes nothing. */
     static LooksByMany settledByForty() {
         LooksByMany x = new LooksByMany();

@@ -16,15 +16,6 @@ public final class TreesTest {
         check.end();
     }
 
-    private static LooksByMany of(int n, int... questions) {
-        LooksByMany x = new LooksByMany();
-        x.things(n);
-        for (int k = 0; k < questions.length; k++) {
-            x.question(k, questions[k]);
-        }
-        return x;
-    }
-
     private static void thingsBeginAnew() {
         LooksByMany x = new LooksByMany();
         check.due("things(2)", x.things(2), 2);
@@ -39,13 +30,13 @@ public final class TreesTest {
     }
 
     private static void weightsBecome() {
-        LooksByMany x = of(3);
+        LooksByMany x = Make.things(3);
         check.due("weight(0, 99)", x.weight(0, 99), 1);
         check.due("weight(0, 1)", x.weight(0, 1), 99);
     }
 
     private static void questionsBecome() {
-        LooksByMany x = of(3);
+        LooksByMany x = Make.things(3);
         check.due("question(0, 7)", x.question(0, 7), 0);
         check.due("question(0, 0)", x.question(0, 0), 7);
         check.due("question(5, 1)", x.question(5, 1), 0);
@@ -58,7 +49,7 @@ public final class TreesTest {
     }
 
     private static void halvesAreBest() {
-        LooksByMany x = of(4, 1, 2, 4, 12, 10);
+        LooksByMany x = Make.things(4, 1, 2, 4, 12, 10);
         tree(x, 15, 8, 3, 2);
         tree(x, 1, 0, NONE, 0);
         tree(x, 3, 2, 0, 1);
@@ -68,7 +59,7 @@ public final class TreesTest {
 
     private static void weightsBendTheTree() {
         // one by one, the heaviest first: 9 * 1 + 3 * 2 + (1 + 1) * 3 = 21; by halves 14 * 2 = 28
-        LooksByMany x = of(4, 1, 2, 4, 3);
+        LooksByMany x = Make.things(4, 1, 2, 4, 3);
         x.weight(0, 9);
         x.weight(1, 3);
         tree(x, 15, 21, 0, 3);
@@ -79,14 +70,14 @@ public final class TreesTest {
 
     private static void likeQuestionsTheLeastFirst() {
         // 2 and 4 part alike, 0 and 1 part nothing at all
-        LooksByMany x = of(3, 0, 7, 3, 1, 4);
+        LooksByMany x = Make.things(3, 0, 7, 3, 1, 4);
         tree(x, 7, 5, 2, 2);
         tree(x, 3, 2, 3, 1);
         tree(x, 6, 2, 2, 1);
     }
 
     private static void whatCannotBeParted() {
-        LooksByMany x = of(4, 3);
+        LooksByMany x = Make.things(4, 3);
         tree(x, 15, 4, 0, 1);
         tree(x, 3, 0, NONE, 0);
         tree(x, 5, 2, 0, 1);
@@ -96,7 +87,7 @@ public final class TreesTest {
     }
 
     private static void wrongTurns() {
-        LooksByMany x = of(8, 0x0F, 0x33, 0x55);
+        LooksByMany x = Make.things(8, 0x0F, 0x33, 0x55);
         for (int t = 0; t < 8; t++) {
             check.due("wrong(" + t + ")", x.wrong(t), 1 << (t ^ 4));
         }
@@ -104,7 +95,7 @@ public final class TreesTest {
 
     private static void wrongTurnsThatAreNotParted() {
         // the first question takes 0 and 1 away; 2, 3, 4 are parted into 2 and the rest by the second
-        LooksByMany x = of(5, 3, 4);
+        LooksByMany x = Make.things(5, 3, 4);
         check.due("wrong(0)", x.wrong(0), 0x18);
         check.due("wrong(1)", x.wrong(1), 0x18);
         check.due("wrong(2)", x.wrong(2), 3);
