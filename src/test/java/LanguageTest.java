@@ -55,6 +55,7 @@ public final class LanguageTest {
             Tree.Kind.INTERFACE, Tree.Kind.RECORD);
     private static final Set<Tree.Kind> COUNTING = EnumSet.of(Tree.Kind.PREFIX_INCREMENT, Tree.Kind.PREFIX_DECREMENT,
             Tree.Kind.POSTFIX_INCREMENT, Tree.Kind.POSTFIX_DECREMENT);
+    private static final Set<TypeKind> FRACTIONS = EnumSet.of(TypeKind.DOUBLE, TypeKind.FLOAT);
     private static final Check check = new Check();
 
     public static void main(String[] args) throws IOException {
@@ -171,7 +172,8 @@ public final class LanguageTest {
 
         @Override
         public Void visitTypeCast(TypeCastTree cast, Void nothing) {
-            check.isTrue("rule 6: a cast of numbers alone: " + cast, isPrimitive(cast) && isPrimitive(cast.getExpression()));
+            check.isTrue("rule 6: a cast of numbers alone: " + cast,
+                    isPrimitive(cast) && isPrimitive(cast.getExpression()));
             return super.visitTypeCast(cast, nothing);
         }
 
@@ -190,7 +192,8 @@ public final class LanguageTest {
 
         @Override
         public Void visitWhileLoop(WhileLoopTree loop, Void nothing) {
-            check.isTrue("rule 9: a loop with a bound: " + loop, loop.getCondition().toString().contains("place < size"));
+            check.isTrue("rule 9: a loop with a bound: " + loop,
+                    loop.getCondition().toString().contains("place < size"));
             return super.visitWhileLoop(loop, nothing);
         }
 
@@ -227,8 +230,9 @@ public final class LanguageTest {
         }
 
         private void changes(ExpressionTree changed) {
-            check.isTrue("rule 5: a constant row is never changed: " + changed, !(changed instanceof ArrayAccessTree place
-                    && isConstantRow(elementAt(new TreePath(getCurrentPath(), place.getExpression())))));
+            boolean isConstant = changed instanceof ArrayAccessTree place
+                    && isConstantRow(elementAt(new TreePath(getCurrentPath(), place.getExpression())));
+            check.isTrue("rule 5: a constant row is never changed: " + changed, !isConstant);
         }
 
         private static boolean isConstantRow(Element element) {
@@ -266,7 +270,7 @@ public final class LanguageTest {
 
         private boolean isPrimitive(Tree part) {
             TypeMirror type = trees.getTypeMirror(new TreePath(getCurrentPath(), part));
-            return type.getKind().isPrimitive() && type.getKind() != TypeKind.DOUBLE && type.getKind() != TypeKind.FLOAT;
+            return type.getKind().isPrimitive() && !FRACTIONS.contains(type.getKind());
         }
 
         private static boolean isOwn(TypeMirror type) {

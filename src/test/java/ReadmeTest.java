@@ -90,7 +90,8 @@ public final class ReadmeTest {
         check.due("a text of " + word + " " + bound, Make.laws(x, word + " " + bound + ";"), 1);
         check.due("the law " + word, x.law(law), bound);
         int farther = bound + beyond;
-        check.isTrue("a text of " + word + " " + farther + " has a fault", Make.laws(x, word + " " + farther + ";") < -10);
+        check.isTrue("a text of " + word + " " + farther + " has a fault",
+                Make.laws(x, word + " " + farther + ";") < -10);
     }
 
     private static void numbersBelowNoughtAreTold(String readme) {
